@@ -1020,10 +1020,9 @@ public final class WeighedMachines {
         int build(Text told, Machine into) {
             text = told;
             made = into;
-            made.clear(0);
             at = 0;
             int fault = readSize();
-            for (int items = 0; items < MOST_LETTERS && fault == FINE && at < text.length; items++) {
+            for (int k = 0; k < MOST_LETTERS && at < text.length && fault == FINE; k++) {
                 fault = readItem();
             }
             return fault;
@@ -1114,12 +1113,12 @@ public final class WeighedMachines {
             return FINE;
         }
 
-        private boolean isDigitNext() {
-            return text.codeAt(at) >= '0' && text.codeAt(at) <= '9';
+        private static boolean isDigit(int code) {
+            return code >= '0' && code <= '9';
         }
 
         private int readLabel() {
-            if (!isDigitNext()) {
+            if (!isDigit(text.codeAt(at))) {
                 return SYNTAX;
             }
             value = text.codeAt(at) - '0';
@@ -1130,7 +1129,7 @@ public final class WeighedMachines {
         private int readNumber(long most) {
             int digits = 0;
             value = 0;
-            while (digits < MOST_DIGITS && isDigitNext()) {
+            while (digits < MOST_DIGITS && isDigit(text.codeAt(at))) {
                 if (digits == 1 && value == 0) {
                     return SYNTAX;
                 }
@@ -1138,7 +1137,7 @@ public final class WeighedMachines {
                 at++;
                 digits++;
             }
-            if (digits == 0 || isDigitNext()) {
+            if (digits == 0 || isDigit(text.codeAt(at))) {
                 return SYNTAX;
             }
             return value > most ? RANGE : FINE;

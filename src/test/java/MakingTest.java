@@ -74,6 +74,12 @@ public final class MakingTest {
             + "9-10:11/0;10-11:11/0;11-12:11/0;12-13:11/0;13-14:11/0;14-15:11/0;";
         check.due("6: 16 states", composed(chain, "n1;s0/0;0-0:11/0;"), chain);
         check.due("6: 17 states", composed(chain + "15-0:10/0;", "n1;s0/0;0-0:11/0;"), "" + FULL);
+        String writesNone = chain.replace(":11/", ":10/");
+        check.due("6: 16 states by filter 1", composed(writesNone, "n1;s0/0;"), writesNone);
+        check.due("6: 17 states by filter 1", composed(writesNone + "15-0:10/0;", "n1;s0/0;"), "" + FULL);
+        String readsNone = chain.replace(":11/", ":01/");
+        check.due("6: 16 states by filter 2", composed("n1;s0/0;", readsNone), readsNone);
+        check.due("6: 17 states by filter 2", composed("n1;s0/0;", readsNone + "15-0:01/0;"), "" + FULL);
         StringBuilder same = new StringBuilder("n1;s0/0;");
         StringBuilder many = new StringBuilder("n2;s0/0;");
         for (int in = 1; in <= 7; in++) {
@@ -162,6 +168,8 @@ public final class MakingTest {
             determined("n5;s0/0;0-1:11/0;0-2:11/1;0-1:22/0;0-2:22/2;"), "n3;s0/0;0-1:11/0;0-2:22/0;");
         check.due("8: the same rests are one",
             determined("n5;s0/0;0-1:11/0;0-2:11/1;0-1:22/7;0-2:22/8;"), "n2;s0/0;0-1:11/0;0-1:22/7;");
+        check.due("8: sets that differ in state 0 alone",
+            determined("n3;s2/0;f0/5;2-0:11/0;2-1:11/0;2-1:22/0;"), "n3;s0/0;f1/5;0-1:11/0;0-2:22/0;");
         check.due("8: as found",
             determined("n4;s3/0;f0/4;3-0:77/0;3-1:11/0;1-2:66/0;1-0:55/0;"),
             "n4;s0/0;f2/4;0-1:11/0;0-2:77/0;1-2:55/0;1-3:66/0;");
