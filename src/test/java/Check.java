@@ -1,13 +1,21 @@
 /** Compares answers with those that are due, prints every wrong one, and ends the program. */
 final class Check {
+    private String sentence = "";
+    private int sentences;
     private int asked;
     private int wrong;
+
+    /** What is checked from here on is this sentence of the document. */
+    void sentence(String told) {
+        sentence = "[" + told + "] ";
+        sentences++;
+    }
 
     void due(String call, long got, long want) {
         asked++;
         if (got != want) {
             wrong++;
-            System.out.println(call + " answered " + got + ", due is " + want);
+            System.out.println(sentence + call + " answered " + got + ", due is " + want);
         }
     }
 
@@ -19,7 +27,7 @@ final class Check {
         asked++;
         if (!got.equals(want)) {
             wrong++;
-            System.out.println(call + " gave\n  " + got + "\ndue is\n  " + want);
+            System.out.println(sentence + call + " gave\n  " + got + "\ndue is\n  " + want);
         }
     }
 
@@ -28,7 +36,8 @@ final class Check {
     }
 
     void finish() {
-        System.out.println(wrong == 0 ? asked + " answers are as due" : wrong + " of " + asked + " answers are not as due");
+        String of = sentences == 0 ? "" : " (" + sentences + " sentences)";
+        System.out.println(wrong == 0 ? asked + " answers are as due" + of : wrong + " of " + asked + " answers are not as due" + of);
         System.exit(wrong == 0 ? 0 : 1);
     }
 }

@@ -1,10 +1,14 @@
 /** What the tests do again and again with the class: telling machines as texts and looking at them. */
 final class Machines {
+    /** Far above what the document lets be, so that a faulty object cannot keep a test going. */
+    private static final int MOST_LETTERS = 2000;
+    private static final int MOST_STEPS = 100;
+
     private Machines() {
     }
 
     /** Feeds a text whole; answers the last answer. */
-    static int feed(WeighedMachines x, String text) {
+    static int feed(Run x, String text) {
         int answer = x.feed(0, 0);
         for (int at = 0; at < text.length(); at += 8) {
             String piece = text.substring(at, Math.min(at + 8, text.length()));
@@ -17,28 +21,30 @@ final class Machines {
         return answer;
     }
 
-    static int parse(WeighedMachines x, int slot, String text) {
+    static int parse(Run x, int slot, String text) {
         feed(x, text);
         return x.parse(slot);
     }
 
     /** Parses a text that has no fault. */
-    static void set(WeighedMachines x, int slot, String text) {
+    static void set(Run x, int slot, String text) {
         if (parse(x, slot, text) < 0) {
             throw new IllegalArgumentException("the test's own text is at fault: " + text);
         }
     }
 
-    static String text(WeighedMachines x) {
+    static String text(Run x) {
         StringBuilder letters = new StringBuilder();
-        for (int i = 0; x.letter(i) != WeighedMachines.NONE; i++) {
-            letters.append((char) x.letter(i));
+        int code = x.letter(0);
+        while (code != WeighedMachines.NONE && letters.length() <= MOST_LETTERS) {
+            letters.append((char) code);
+            code = x.letter(letters.length());
         }
         return letters.toString();
     }
 
     /** The machine in the print's form, but told by count, part and endOf: the text stays. */
-    static String show(WeighedMachines x, int slot) {
+    static String show(Run x, int slot) {
         StringBuilder told = new StringBuilder("n" + x.count(slot, 0) + ";");
         if (x.count(slot, 3) != WeighedMachines.NONE) {
             told.append("s" + x.count(slot, 3) + "/" + x.count(slot, 4) + ";");
@@ -56,9 +62,9 @@ final class Machines {
     }
 
     /** The best path that is kept, as arcs in the print's form. */
-    static String path(WeighedMachines x) {
+    static String path(Run x) {
         StringBuilder told = new StringBuilder();
-        for (int k = 0; x.step(k, 0) != WeighedMachines.NONE; k++) {
+        for (int k = 0; k < MOST_STEPS && x.step(k, 0) != WeighedMachines.NONE; k++) {
             told.append(x.step(k, 0) + "-" + x.step(k, 1) + ":");
             told.append(x.step(k, 2) + "" + x.step(k, 3) + "/" + x.step(k, 4) + ";");
         }
@@ -66,7 +72,7 @@ final class Machines {
     }
 
     /** All that can be seen of an object. */
-    static String all(WeighedMachines x) {
+    static String all(Run x) {
         StringBuilder told = new StringBuilder();
         for (int slot = 0; slot < 4; slot++) {
             told.append(show(x, slot)).append('\n');

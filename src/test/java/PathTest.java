@@ -17,7 +17,7 @@ public final class PathTest {
     }
 
     private static void weigh() {
-        WeighedMachines x = new WeighedMachines();
+        Run x = new Run();
         Machines.set(x, 0, "n3;s0/100;f2/1;f0/50;0-1:12/7;0-2:12/30;1-2:00/2;1-2:30/3;2-2:03/4;");
         check.due("11: start and end alone", x.weigh(0, 0, 0), 150);
         check.due("11: 1 to 2", x.weigh(0, 1, 2), 110);
@@ -39,7 +39,7 @@ public final class PathTest {
     }
 
     private static void weighRows() {
-        WeighedMachines x = new WeighedMachines();
+        Run x = new Run();
         StringBuilder told = new StringBuilder("n1;s0/0;f0/0;");
         for (int label = 1; label <= 7; label++) {
             told.append("0-0:" + label + "0/" + label + ";0-0:0" + label + "/10;");
@@ -57,7 +57,7 @@ public final class PathTest {
     }
 
     private static void weighEmptySteps() {
-        WeighedMachines x = new WeighedMachines();
+        Run x = new Run();
         StringBuilder told = new StringBuilder("n16;s15/1;f0/2;15-0:00/900;");
         for (int q = 15; q > 0; q--) {
             told.append(q + "-" + (q - 1) + ":00/3;");
@@ -69,13 +69,13 @@ public final class PathTest {
     }
 
     private static void weighLarge() {
-        WeighedMachines x = new WeighedMachines();
+        Run x = new Run();
         Machines.set(x, 0, "n1;s0/1000000000;f0/1000000000;0-0:10/1000000000;0-0:01/1000000000;");
         check.due("11: large", x.weigh(0, 11111111, 11111111), 18000000000L);
     }
 
     private static void best() {
-        WeighedMachines x = new WeighedMachines();
+        Run x = new Run();
         Machines.set(x, 1, "n4;s0/10;f3/2;f1/100;0-1:10/1;1-2:01/1;2-3:22/1;0-3:77/4;");
         check.due("12: best(1)", x.best(1), 15);
         check.due("12: its path", Machines.path(x), "0-1:10/1;1-2:01/1;2-3:22/1;");
@@ -93,7 +93,7 @@ public final class PathTest {
     }
 
     private static void bestTies() {
-        WeighedMachines x = new WeighedMachines();
+        Run x = new Run();
         Machines.set(x, 0, "n3;s0/0;f2/0;0-1:11/1;1-2:11/1;0-2:77/2;");
         check.due("12: fewest arcs", x.best(0), 2);
         check.due("12: its path", Machines.path(x), "0-2:77/2;");
@@ -112,7 +112,7 @@ public final class PathTest {
     }
 
     private static void bestKept() {
-        WeighedMachines x = new WeighedMachines();
+        Run x = new Run();
         Machines.set(x, 0, "n2;s0/1;f1/1;0-1:12/1;");
         check.due("12: found", x.best(0), 3);
         x.arc(0, 0, 1, 8 + 2, 0);
@@ -132,7 +132,7 @@ public final class PathTest {
     }
 
     private static void step() {
-        WeighedMachines x = new WeighedMachines();
+        Run x = new Run();
         Machines.set(x, 0, "n16;s3/0;f2/0;3-15:70/1000000000;15-2:06/5;");
         x.best(0);
         int[] first = {3, 15, 7, 0, 1000000000};

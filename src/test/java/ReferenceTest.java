@@ -4,12 +4,14 @@ import java.util.Random;
 public final class ReferenceTest {
     private static final int RUNS = 3000;
     private static final int CALLS = 60;
+    /** A call of a run may stand for some two hundred, and a run is to be far from its 512th one. */
+    private static final int MOST_CHANGES = 180;
     private static final long[] LARGE = {1000000000L, 999999999L, 500000000L, 499999999L, 1L, 0L};
 
     private final Check check;
     private final Random random;
     private final int run;
-    private final WeighedMachines x = new WeighedMachines();
+    private final Run x = new Run();
     private final Reference y = new Reference();
 
     private ReferenceTest(Check check, int run) {
@@ -28,7 +30,7 @@ public final class ReferenceTest {
     }
 
     private void go() {
-        for (int k = 0; k < CALLS && !check.isAnyWrong(); k++) {
+        for (int k = 0; k < CALLS && x.changes() < MOST_CHANGES && !check.isAnyWrong(); k++) {
             String before = y.all();
             String call = call();
             if (check.isAnyWrong()) {

@@ -3,7 +3,8 @@ import java.lang.management.ManagementFactory;
 
 /** All calls of a run live in one room: an object is small, and its calls make nothing more. */
 public final class RoomTest {
-    private static final int CALLS = 512;
+    /** With those that fill the object, a run of as many as the document allows. */
+    private static final int CALLS = 384;
     private static final ThreadMXBean ROOM = (ThreadMXBean) ManagementFactory.getThreadMXBean();
 
     private static long used() {
@@ -31,16 +32,22 @@ public final class RoomTest {
         }
     }
 
+    /** Slot 0 with 64 arcs and slot 1 with 60, by fewer calls than are left for the run. */
     private static WeighedMachines filled() {
         WeighedMachines x = new WeighedMachines();
-        Machines.set(x, 0, Machines.allPairs(1, 3) + "s0/1;f0/1;");
-        StringBuilder told = new StringBuilder("n16;s0/0;f15/1;");
-        for (int q = 0; q < 15; q++) {
-            for (int label = 1; label <= 4; label++) {
-                told.append(q + "-" + (q + 1) + ":" + label + label + "/" + label + ";");
-            }
+        x.fresh(0, 1);
+        x.start(0, 0, 1);
+        x.end(0, 0, 1);
+        for (int labels = 0; labels < 64; labels++) {
+            x.arc(0, 0, 0, labels, 3);
         }
-        Machines.set(x, 1, told.toString());
+        x.fresh(1, 16);
+        x.start(1, 0, 0);
+        x.end(1, 15, 1);
+        for (int k = 0; k < 60; k++) {
+            int label = 1 + k % 4;
+            x.arc(1, k / 4, k / 4 + 1, 9 * label, label);
+        }
         return x;
     }
 

@@ -21,7 +21,7 @@ public final class SettingTest {
     }
 
     private static void newObject() {
-        WeighedMachines x = new WeighedMachines();
+        Run x = new Run();
         check.due("1: all of a new object", Machines.all(x), "n0;\nn0;\nn0;\nn0;\n\n");
         check.due("1: letter(0)", x.letter(0), NONE);
         check.due("1: step(0, 0)", x.step(0, 0), NONE);
@@ -30,13 +30,13 @@ public final class SettingTest {
             check.due("1: start", x.start(slot, 0, 0), false);
             check.due("1: best", x.best(slot), NONE);
         }
-        WeighedMachines other = new WeighedMachines();
+        Run other = new Run();
         Machines.set(other, 0, "n1;s0/3;");
         check.due("1: another object", x.count(0, 0), 0);
     }
 
     private static void fresh() {
-        WeighedMachines x = new WeighedMachines();
+        Run x = new Run();
         Machines.set(x, 1, "n2;s1/5;f0/1;0-1:12/3;");
         check.due("2: fresh(1, 16)", x.fresh(1, 16), true);
         check.due("2: what is left", Machines.show(x, 1), "n16;");
@@ -53,7 +53,7 @@ public final class SettingTest {
     }
 
     private static void start() {
-        WeighedMachines x = new WeighedMachines();
+        Run x = new Run();
         x.fresh(3, 2);
         check.due("3: start(3, 1, 7)", x.start(3, 1, 7), true);
         check.due("3: shown", Machines.show(x, 3), "n2;s1/7;");
@@ -74,7 +74,7 @@ public final class SettingTest {
     }
 
     private static void end() {
-        WeighedMachines x = new WeighedMachines();
+        Run x = new Run();
         x.fresh(0, 16);
         check.due("4: end(0, 15, MOST)", x.end(0, 15, MOST), true);
         check.due("4: end(0, 2, 0)", x.end(0, 2, 0), true);
@@ -96,7 +96,7 @@ public final class SettingTest {
     }
 
     private static void arc() {
-        WeighedMachines x = new WeighedMachines();
+        Run x = new Run();
         x.fresh(0, 2);
         check.due("5: arc", x.arc(0, 1, 0, 8 * 3 + 5, MOST), 1);
         check.due("5: shown", Machines.show(x, 0), "n2;1-0:35/1000000000;");
@@ -125,7 +125,7 @@ public final class SettingTest {
     }
 
     private static void arcOrder() {
-        WeighedMachines x = new WeighedMachines();
+        Run x = new Run();
         x.fresh(0, 16);
         x.arc(0, 15, 0, 0, 1);
         x.arc(0, 2, 0, 8, 2);
@@ -138,7 +138,7 @@ public final class SettingTest {
     }
 
     private static void arcFull() {
-        WeighedMachines x = new WeighedMachines();
+        Run x = new Run();
         Machines.set(x, 0, Machines.allPairs(2, 7));
         String before = Machines.all(x);
         check.due("5: a 65th", x.arc(0, 0, 1, 0, 0), FULL);
@@ -149,7 +149,7 @@ public final class SettingTest {
     }
 
     private static void count() {
-        WeighedMachines x = new WeighedMachines();
+        Run x = new Run();
         Machines.set(x, 2, "n9;s8/40;f0/0;f3/1;f8/2;1-2:00/3;1-2:01/3;");
         check.due("14: states", x.count(2, 0), 9);
         check.due("14: arcs", x.count(2, 1), 2);
@@ -171,7 +171,7 @@ public final class SettingTest {
     }
 
     private static void part() {
-        WeighedMachines x = new WeighedMachines();
+        Run x = new Run();
         Machines.set(x, 1, "n16;9-14:75/1000000000;3-2:01/4;");
         int[] due = {9, 14, 7, 5, MOST};
         for (int what = 0; what < 5; what++) {
@@ -188,7 +188,7 @@ public final class SettingTest {
     }
 
     private static void endOf() {
-        WeighedMachines x = new WeighedMachines();
+        Run x = new Run();
         Machines.set(x, 1, "n16;f15/1000000000;f0/0;");
         check.due("16: state 15", x.endOf(1, 15), MOST);
         check.due("16: state 0", x.endOf(1, 0), 0);

@@ -22,7 +22,7 @@ public final class TextTest {
     }
 
     private static void print() {
-        WeighedMachines x = new WeighedMachines();
+        Run x = new Run();
         x.feed('x', 1);
         check.due("17: an empty one", x.print(0), 3);
         check.due("17: its text", Machines.text(x), "n0;");
@@ -43,7 +43,7 @@ public final class TextTest {
     }
 
     private static void printLongest() {
-        WeighedMachines x = new WeighedMachines();
+        Run x = new Run();
         StringBuilder due = new StringBuilder("n16;s15/1000000000;");
         x.fresh(0, 16);
         x.start(0, 15, 1000000000);
@@ -64,7 +64,7 @@ public final class TextTest {
     }
 
     private static void parsed(String text, String machine) {
-        WeighedMachines x = new WeighedMachines();
+        Run x = new Run();
         Machines.set(x, 3, "n1;s0/1;f0/1;0-0:11/1;");
         int answer = Machines.parse(x, 3, text);
         check.due("18: arcs of " + text, answer, x.count(3, 1));
@@ -82,7 +82,7 @@ public final class TextTest {
     }
 
     private static void fault(String text, int due) {
-        WeighedMachines x = new WeighedMachines();
+        Run x = new Run();
         check.due("18: " + text, Machines.parse(x, 0, text), due);
         check.due("18: refused " + text, Machines.all(x), "n0;\nn0;\nn0;\nn0;\n" + text + "\n");
     }
@@ -132,7 +132,7 @@ public final class TextTest {
     }
 
     private static void parseRefused() {
-        WeighedMachines x = new WeighedMachines();
+        Run x = new Run();
         Machines.set(x, 1, "n2;s0/1;f1/2;0-1:11/3;");
         x.best(1);
         for (String text : new String[] {"n3;s0/0;x", "n17;", "n1;f0/0;f0/0;", Machines.allPairs(2, 9) + "1-1:77/9;"}) {
@@ -148,7 +148,7 @@ public final class TextTest {
     }
 
     private static void feed() {
-        WeighedMachines x = new WeighedMachines();
+        Run x = new Run();
         check.due("19: feed(ab, 2)", x.feed('a' << 8 | 'b', 2), 2);
         check.due("19: higher bytes do not count", x.feed(0x0A0A0A0A0A0A0A7EL, 1), 3);
         check.due("19: eight", x.feed(0x2021222324252627L, 8), 11);
@@ -171,7 +171,7 @@ public final class TextTest {
     }
 
     private static void feedFull() {
-        WeighedMachines x = new WeighedMachines();
+        Run x = new Run();
         for (int k = 1; k <= 199; k++) {
             check.due("19: on and on", x.feed(0x4142434445464748L, 8), 8 * k);
         }
@@ -187,7 +187,7 @@ public final class TextTest {
     }
 
     private static void letter() {
-        WeighedMachines x = new WeighedMachines();
+        Run x = new Run();
         x.feed('a' << 8 | '~', 2);
         check.due("20: letter(0)", x.letter(0), 'a');
         check.due("20: letter(1)", x.letter(1), '~');
