@@ -46,6 +46,7 @@ public final class EdgeMakingTest {
         trimOrder();
         trimNone();
         trimNoSlot();
+        greatest();
         check.finish();
     }
 
@@ -141,6 +142,8 @@ public final class EdgeMakingTest {
         check.due("label 1", made.composed("n1;s0/0;0-0:71/1;", "n1;s0/0;0-0:17/2;"), "n1;s0/0;0-0:77/3;");
         check.due("other labels", made.composed("n1;s0/0;0-0:12/1;0-0:14/1;", "n1;s0/0;0-0:33/2;0-0:55/1;0-0:11/1;"),
             "n1;s0/0;");
+        check.due("the labels beside it", made.composed("n1;s0/0;0-0:13/1;", "n2;s0/0;0-0:40/2;0-1:40/2;0-1:27/2;0-0:27/2;"),
+            "n1;s0/0;");
         check.due("in 0 and out 0", made.composed("n1;s0/0;0-0:03/1;", "n1;s0/0;0-0:30/2;"), "n1;s0/0;0-0:00/3;");
         check.due("arcs of other states", made.composed("n2;s0/0;1-1:11/1;", "n2;s0/0;1-1:11/2;0-0:11/2;"), "n1;s0/0;");
         check.due("the last states", made.composed("n16;s15/0;15-15:11/1;", "n16;s15/0;15-15:11/2;"), "n1;s0/0;0-0:11/3;");
@@ -158,6 +161,8 @@ public final class EdgeMakingTest {
             "n4;s0/0;f1/0;0-3:02/2;0-2:10/1;0-1:12/3;");
         check.due("not when it is 1 or 2", made.composed("n1;s0/0;0-0:10/1;", "n1;s0/0;0-0:02/2;"),
             "n3;s0/0;0-2:02/2;0-1:10/1;0-0:12/3;1-1:10/1;2-2:02/2;");
+        check.due("empty steps to state 0", made.composed("n2;s1/0;1-0:00/1;0-0:00/8;", "n2;s1/0;1-0:00/2;0-0:00/16;"),
+            "n6;s0/0;0-1:00/3;0-2:00/1;0-3:00/2;1-1:00/24;1-4:00/8;1-5:00/16;2-2:00/8;3-3:00/16;4-4:00/8;5-5:00/16;");
     }
 
     private static void composeFirstAlone() {
@@ -166,6 +171,9 @@ public final class EdgeMakingTest {
             "n3;s0/0;0-1:10/1;1-2:20/2;");
         check.due("not when it is 2", made.composed("n2;s0/0;0-1:10/1;", "n2;s0/0;f1/0;0-1:02/2;"),
             "n4;s0/0;0-3:02/2;0-2:10/1;0-1:12/3;");
+        check.due("to the last state, with the last in", made.composed("n16;s0/0;0-15:70/1;", "n1;s0/0;"), "n2;s0/0;0-1:70/1;");
+        check.due("not with out 1", made.composed("n2;s0/0;0-0:01/1;0-1:11/1;", "n1;s0/0;"), "n1;s0/0;");
+        check.due("not of another state", made.composed("n3;s1/0;0-2:00/1;2-0:00/1;", "n1;s0/0;"), "n1;s0/0;");
         check.due("out 0 alone, in 0 too", made.composed("n2;s0/0;0-1:00/1;0-1:11/1;", "n1;s0/0;"), "n2;s0/0;0-1:00/1;");
     }
 
@@ -175,6 +183,8 @@ public final class EdgeMakingTest {
             "n3;s0/0;0-1:01/1;1-2:02/2;");
         check.due("not when it is 1", made.composed("n2;s0/0;f1/0;0-1:10/1;", "n2;s0/0;0-1:02/2;"),
             "n4;s0/0;0-3:02/2;0-2:10/1;0-1:12/3;");
+        check.due("to the last state, with the last out", made.composed("n1;s0/0;", "n16;s0/0;0-15:07/1;"), "n2;s0/0;0-1:07/1;");
+        check.due("not with in 1", made.composed("n1;s0/0;", "n2;s0/0;0-0:10/1;0-1:10/1;0-0:11/1;"), "n1;s0/0;");
         check.due("in 0 alone, out 0 too", made.composed("n1;s0/0;", "n2;s0/0;0-1:00/1;0-1:11/1;"), "n2;s0/0;0-1:00/1;");
     }
 
@@ -419,5 +429,29 @@ public final class EdgeMakingTest {
             check.due("trim(" + no + ", 1)", x.trim(no, 1), NONE);
             check.due("trim(0, " + no + ")", x.trim(0, no), NONE);
         }
+    }
+
+    /** 16 states one behind the other and 64 arcs: four from each to the next, of the last ones five. */
+    private static String greatest(int start, int end, int weight, int fifth) {
+        StringBuilder told = new StringBuilder("n16;s0/" + start + ";f15/" + end + ";");
+        for (int q = 0; q < 15; q++) {
+            for (int label = 1; label <= 4; label++) {
+                told.append(q + "-" + (q + 1) + ":" + label + label + "/" + weight + ";");
+            }
+            told.append(q < 11 ? "" : q + "-" + (q + 1) + ":77/" + fifth + ";");
+        }
+        return told.toString();
+    }
+
+    private static void greatest() {
+        check.sentence("Machines have at most 16 states and 64 arcs: so many are taken");
+        String given = greatest(1, 3, 2, 9);
+        String copy = "n1;s0/0;f0/0;0-0:11/0;0-0:22/0;0-0:33/0;0-0:44/0;0-0:77/0;";
+        check.due("compose", made.composed(given, copy), given);
+        check.due("compose the other way", made.composed(copy, given), given);
+        check.due("bare", made.bared(given), given);
+        check.due("determine", made.determined(given), given);
+        check.due("push", made.pushed(given), greatest(34, 0, 0, 7));
+        check.due("trim", made.trimmed(given), given);
     }
 }

@@ -27,6 +27,7 @@ public final class EdgePathTest {
         stepNone();
         stepAsItWas();
         stepFoundLast();
+        greatest();
         check.finish();
     }
 
@@ -309,5 +310,21 @@ public final class EdgePathTest {
         check.due("of none", Machines.path(x), "");
         x.best(3);
         check.due("none was found", Machines.path(x), "");
+    }
+
+    private static void greatest() {
+        check.sentence("Machines have at most 16 states and 64 arcs: so many are taken");
+        StringBuilder told = new StringBuilder("n16;s0/1;f15/3;15-15:00/0;15-0:07/0;15-15:70/0;15-15:77/2;");
+        for (int k = 0; k < 60; k++) {
+            int label = 1 + k % 4;
+            told.append(k / 4 + "-" + (k / 4 + 1) + ":" + (k / 4 < 6 ? label : label - 1) + "0/" + (9 - label) + ";");
+        }
+        Run x = with(told.toString());
+        check.due("the test's own arcs", x.count(0, 1), 64);
+        check.due("the last arc counts", x.weigh(0, 1111117, 7), 1 + 15 * 8 + 2 + 3);
+        check.due("without it", x.weigh(0, 11111177, 0), 1 + 15 * 8 + 3);
+        check.due("the best", x.best(0), 1 + 15 * 5 + 3);
+        check.due("its last arc", x.step(14, 1), 15);
+        check.due("no more", x.step(15, 0), NONE);
     }
 }
