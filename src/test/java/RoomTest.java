@@ -4,7 +4,7 @@ import java.lang.management.ManagementFactory;
 /** All calls of a run live in one room: an object is small, and its calls make nothing more. */
 public final class RoomTest {
     /** With those that fill the object, a run of as many as the document allows. */
-    private static final int CALLS = 384;
+    private static final int CALLS = 368;
     private static final ThreadMXBean ROOM = (ThreadMXBean) ManagementFactory.getThreadMXBean();
 
     private static long used() {
